@@ -1,0 +1,161 @@
+/** Promises 16 to 19: would, until, quiet, advise. */
+public final class WhatWouldBeTest {
+    private static final Class<IndexOutOfBoundsException> OUT = IndexOutOfBoundsException.class;
+    private static final Class<IllegalArgumentException> ARGUMENT = IllegalArgumentException.class;
+    private static final Class<IllegalStateException> STATE = IllegalStateException.class;
+    private static final int[] NO_SAILORS = {-1, 3, 10, Integer.MIN_VALUE, Integer.MAX_VALUE};
+
+    public static void main(String[] args) {
+        would();
+        wouldRefuses();
+        until();
+        untilTheLastHour();
+        untilRefuses();
+        quiet();
+        advise();
+        adviseRefuses();
+        Check.end();
+    }
+
+    /** A bed; sailors of the watches 0, 0 and 1, who need no coins. */
+    private static HotBeds house() {
+        HotBeds x = new HotBeds();
+        x.bed(0);
+        x.sailor(0, 5, 0, 0);
+        x.sailor(0, 3, 0, 0);
+        x.sailor(1, 0, 0, 0);
+        return x;
+    }
+
+    private static void would() {
+        HotBeds x = house();
+        long before = x.digest();
+        Check.same("an hour", x.would(0, 1), 1);
+        Check.same("a watch", x.would(0, 8), 14);
+        Check.same("a day", x.would(0, 24), 14);
+        Check.same("three days", x.would(0, 72), 42);
+        Check.same("on the floor", x.would(1, 72), 6);
+        Check.same("not yet", x.would(2, 8), 0);
+        Check.same("a warm bed", x.would(2, 72), 48);
+        Check.same("nothing is changed", x.digest(), before);
+        x.pass(3);
+        Check.same("by how much more, not how much", x.would(0, 1), 2);
+        Check.same("not the rest from ahead", x.would(0, 24), 14 - 4 + 4);
+    }
+
+    private static void wouldRefuses() {
+        HotBeds x = house();
+        for (int hours : new int[] {0, -1, 73, Integer.MIN_VALUE, Integer.MAX_VALUE}) {
+            Check.fails("would(0, " + hours + ")", x, ARGUMENT, () -> x.would(0, hours));
+        }
+        for (int sailor : NO_SAILORS) {
+            Check.fails("would(" + sailor + ", 1)", x, OUT, () -> x.would(sailor, 1));
+            Check.fails("would(" + sailor + ", 0)", x, OUT, () -> x.would(sailor, 0));
+        }
+    }
+
+    private static void until() {
+        HotBeds x = house();
+        long before = x.digest();
+        Check.same("in the first hour", x.until(0), 1);
+        Check.same("never", x.until(1), -1);
+        Check.same("in the next watch", x.until(2), 9);
+        Check.same("nothing is changed", x.digest(), before);
+        x.pass(1);
+        Check.same("now", x.until(0), 0);
+        Check.same("an hour nearer", x.until(2), 8);
+        x.pass(8);
+        Check.same("in the next day", x.until(0), 16);
+        Check.same("now", x.until(2), 0);
+    }
+
+    /** Has 1 coin, earns 2 each day, and needs 6: in the hour 48 there are 7. */
+    private static void untilTheLastHour() {
+        HotBeds x = new HotBeds();
+        x.setPawn(1);
+        x.bed(6);
+        x.sailor(0, 0, 4, 0);
+        x.pawn(0);
+        x.setPawn(20);
+        Check.same("behind 49 hours: not by then", x.until(0), -1);
+        x.pass(1);
+        Check.same("behind 48 hours", x.until(0), 48);
+        x.pass(1);
+        Check.same("behind 47 hours", x.until(0), 47);
+        x.pass(46);
+        Check.same("not yet", x.told(0, 6), 0);
+        x.pass(1);
+        Check.same("in the bed", x.told(0, 6), 1);
+    }
+
+    private static void untilRefuses() {
+        HotBeds x = house();
+        for (int sailor : NO_SAILORS) {
+            Check.fails("until(" + sailor + ")", x, OUT, () -> x.until(sailor));
+        }
+    }
+
+    private static void quiet() {
+        HotBeds x = new HotBeds();
+        Check.same("without sailors", x.quiet(), 0);
+        x.bed(0);
+        x.sailor(2, 0, 0, 0);
+        Check.same("who hears all", x.quiet(), 0);
+        x.sailor(0, 4, 0, 0);
+        long before = x.digest();
+        Check.same("in a bed", x.quiet(), 4);
+        Check.same("nothing is changed", x.digest(), before);
+        x.sailor(0, 7, 0, 0);
+        Check.same("on the floor", x.quiet(), 7);
+        x.sailor(1, 9, 0, 0);
+        x.setBell(0);
+        Check.same("the heaviest", x.quiet(), 9);
+        Check.same("the bell is as it was", x.count(8), 0);
+        HotBeds y = new HotBeds();
+        y.setBell(0);
+        y.bed(0);
+        y.sailor(0, 2, 0, 0);
+        y.pass(9);
+        Check.same("late", y.told(0, 9), 1);
+        Check.same("late by an hour more, not late ahead", y.quiet(), 2);
+    }
+
+    private static void advise() {
+        HotBeds x = house();
+        long before = x.digest();
+        Check.same("28 in watch 0, 32 behind the other one and ahead of 2 in 1", x.advise(0), 1);
+        Check.same("the floor in 0, 32 in 1 and 2: the smaller one", x.advise(1), 1);
+        Check.same("the floor in 0, 32 in 1, 28 in 2", x.advise(2), 1);
+        Check.same("nothing is changed", x.digest(), before);
+        HotBeds y = new HotBeds();
+        y.sailor(2, 0, 0, 0);
+        Check.same("all the same: the smallest", y.advise(0), 0);
+        y.bed(0);
+        Check.same("14 in each watch: the smallest", y.advise(0), 0);
+        y.sailor(0, 0, 0, 0);
+        y.keep(1, 0);
+        Check.same("the smaller number looks first, but has it cold", y.advise(0), 1);
+        y.pass(12);
+        Check.same("the rest behind 48 hours", y.advise(0), 1);
+        Check.same("the watch is as it was", y.told(0, 0), 2);
+        HotBeds z = new HotBeds();
+        z.bed(0);
+        z.sailor(0, 0, 0, 0);
+        z.sailor(1, 0, 0, 0);
+        z.sailor(0, 0, 0, 0);
+        Check.same("the floor in 0 and 1", z.advise(2), 2);
+    }
+
+    private static void adviseRefuses() {
+        HotBeds x = house();
+        for (int sailor : NO_SAILORS) {
+            Check.fails("advise(" + sailor + ")", x, OUT, () -> x.advise(sailor));
+        }
+        x.pass(1);
+        Check.fails("in a bed", x, STATE, () -> x.advise(0));
+        x.pass(4);
+        Check.fails("on the floor", x, STATE, () -> x.advise(1));
+        x.call(1);
+        Check.same("up again", x.advise(1) >= 0 ? 1 : 0, 1);
+    }
+}
