@@ -21,6 +21,7 @@ public final class HoursTest {
         servedByNumbers();
         restAndWarmth();
         coldAndWarmBeds();
+        fullHouse();
         Check.end();
     }
 
@@ -368,5 +369,21 @@ public final class HoursTest {
             Check.same("rest at warmth " + warmth, x.told(1, 8), warmth >= 4 ? 2 : 1);
             Check.same("warmer", x.about(0, 1), Math.min(8, warmth + 2));
         }
+    }
+
+    /** 6 beds and 10 sailors of one watch: 4 lie on the floor each day. */
+    private static void fullHouse() {
+        HotBeds x = new HotBeds();
+        for (int i = 0; i < 6; i++) {
+            x.bed(0);
+        }
+        for (int i = 0; i < 10; i++) {
+            x.sailor(0, 9, 0, 0);
+        }
+        x.setBell(8);
+        Check.same("floors", x.pass(72), 12);
+        Check.counts("the house", x, 72, 6, 10, 0, 0, 0, 30, 12, 8, 6);
+        Check.same("in a bed: 14 in the watch, 2 in the late hour", x.told(5, 8), 3 * 16);
+        Check.same("on the floor, late in an even hour", x.told(9, 8), 3 * 2);
     }
 }

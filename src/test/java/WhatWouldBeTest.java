@@ -7,6 +7,10 @@ public final class WhatWouldBeTest {
 
     public static void main(String[] args) {
         would();
+        wouldKnowsTheBell();
+        wouldKnowsPawnAndBoots();
+        wouldKnowsLateHours();
+        wouldKnowsTheKeptBed();
         wouldRefuses();
         until();
         untilTheLastHour();
@@ -41,6 +45,55 @@ public final class WhatWouldBeTest {
         x.pass(3);
         Check.same("by how much more, not how much", x.would(0, 1), 2);
         Check.same("not the rest from ahead", x.would(0, 24), 14 - 4 + 4);
+    }
+
+    private static void wouldKnowsTheBell() {
+        HotBeds x = new HotBeds();
+        x.setBell(0);
+        x.bed(0);
+        x.sailor(0, 9, 0, 0);
+        Check.same("5 late hours by 2", x.would(0, 24), 24);
+        x.setBell(9);
+        Check.same("no late hours", x.would(0, 24), 14);
+    }
+
+    private static void wouldKnowsPawnAndBoots() {
+        HotBeds x = new HotBeds();
+        x.setPawn(3);
+        x.bed(4);
+        x.sailor(0, 0, 0, 0);
+        Check.same("the pawn is too small", x.would(0, 8), 4);
+        x.setPawn(4);
+        Check.same("the pawn is as much", x.would(0, 8), 14);
+        x.setPawn(3);
+        x.pawn(0);
+        x.setPawn(20);
+        Check.same("the boots are in pawn", x.would(0, 8), 4);
+    }
+
+    /** Late for 2 hours, and so by 2 coins short of the price of 5 in the next watch. */
+    private static void wouldKnowsLateHours() {
+        HotBeds x = new HotBeds();
+        x.bed(5);
+        x.sailor(0, 9, 5, 0);
+        x.pass(24);
+        Check.same("late", x.told(0, 9), 2);
+        Check.same("no coins", x.told(0, 3), 0);
+        x.setPawn(1);
+        Check.same("3 coins, and 1", x.would(0, 8), 4);
+        x.setPawn(2);
+        Check.same("3 coins, and 2", x.would(0, 8), 14);
+    }
+
+    private static void wouldKnowsTheKeptBed() {
+        HotBeds x = new HotBeds();
+        x.bed(0);
+        x.bed(9);
+        x.sailor(0, 0, 0, 1);
+        x.keep(0, 1);
+        Check.same("the kept bed is too dear", x.would(0, 8), 4);
+        x.keep(0, -1);
+        Check.same("any bed", x.would(0, 8), 14);
     }
 
     private static void wouldRefuses() {
