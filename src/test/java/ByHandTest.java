@@ -12,8 +12,12 @@ public final class ByHandTest {
         callFromBed();
         callFromFloor();
         callOfTheLate();
+        callInTheLastHour();
+        callBehindTheLastHour();
         shift();
         shiftIsFollowed();
+        shiftIntoTheWatchOfTheHour();
+        shiftToEachWatch();
         Check.end();
     }
 
@@ -118,6 +122,37 @@ public final class ByHandTest {
         Check.told("the watch is over", x, 0, 0, 9, 0, 0, 1, -1, 0, -1, 16, 1, 0);
     }
 
+    /** "Looks for a bed again, if the watch is not over": in its last hour it is not. */
+    private static void callInTheLastHour() {
+        HotBeds x = new HotBeds();
+        x.bed(2);
+        x.sailor(0, 0, 0, 9);
+        x.sailor(0, 0, 0, 9);
+        x.pass(7);
+        Check.same("from the bed", x.call(0), 0);
+        Check.same("from the floor", x.call(1), -1);
+        Check.same("one lies down again", x.pass(1), 1);
+        Check.told("the bed again", x, 0, 0, 0, 0, 5, 1, -1, 1, 0, 14, 0, 0);
+        Check.told("the floor again", x, 1, 0, 0, 0, 9, 1, -1, 2, -1, 2, 0, 2);
+        Check.about("the bed", x, 0, 2, 8, 2, 4, 0);
+    }
+
+    /** The watch is over at the hour 8, though its bell is not yet rung. */
+    private static void callBehindTheLastHour() {
+        HotBeds x = new HotBeds();
+        x.setBell(0);
+        x.bed(2);
+        x.sailor(0, 9, 0, 9);
+        x.sailor(0, 9, 0, 9);
+        x.pass(8);
+        Check.same("from the bed", x.call(0), 0);
+        Check.same("from the floor", x.call(1), -1);
+        Check.same("nobody lies down", x.pass(1), 0);
+        Check.told("up, and not late", x, 0, 0, 9, 0, 7, 1, -1, 0, -1, 14, 0, 0);
+        Check.told("up, and not late", x, 1, 0, 9, 0, 9, 1, -1, 0, -1, 2, 0, 1);
+        Check.about("the bed gets colder", x, 0, 2, 7, 1, 2, -1);
+    }
+
     private static void shift() {
         HotBeds x = new HotBeds();
         x.bed(0);
@@ -152,5 +187,37 @@ public final class ByHandTest {
         Check.told("not yet", x, 0, 1, 0, 3, 0, 1, -1, 0, -1, 0, 0, 0);
         x.pass(1);
         Check.told("paid and in the bed", x, 0, 1, 0, 3, 3, 1, -1, 1, 0, 1, 0, 0);
+    }
+
+    /** Shifted behind the first hour, one gets no pay, but looks for a bed. */
+    private static void shiftIntoTheWatchOfTheHour() {
+        HotBeds x = new HotBeds();
+        x.bed(0);
+        x.sailor(2, 0, 3, 0);
+        x.pass(1);
+        Check.same("before", x.shift(0, 0), 2);
+        x.pass(1);
+        Check.told("in the bed at once, not paid", x, 0, 0, 0, 3, 0, 1, -1, 1, 0, 1, 0, 0);
+        HotBeds y = new HotBeds();
+        y.sailor(0, 0, 3, 0);
+        y.pass(1);
+        y.shift(0, 1);
+        y.pass(8);
+        Check.same("paid in both watches", y.told(0, 3), 6);
+    }
+
+    /** "watch is 0 to 2": from each to each, also to the same one. */
+    private static void shiftToEachWatch() {
+        for (int from = 0; from <= 2; from++) {
+            for (int to = 0; to <= 2; to++) {
+                HotBeds x = new HotBeds();
+                x.sailor(from, 0, 0, 0);
+                Check.same("before", x.shift(0, to), from);
+                Check.same("from now on", x.told(0, 0), to);
+                Check.same("on the floor in the fifth hour of it", x.pass(8 * to + 5), 1);
+                Check.same("and not ahead of it", x.told(0, 6), 2);
+                Check.same("an hour ahead of it", x.would(0, 1), 1);
+            }
+        }
     }
 }

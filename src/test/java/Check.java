@@ -1,5 +1,6 @@
 /** What the tests share: compares answers, tells each wrong one, and ends with exit code 1 if there was one. */
 final class Check {
+    private static final int MOST_TOLD = 100;
     private static int wrong = 0;
 
     private Check() {
@@ -11,19 +12,24 @@ final class Check {
 
     static void same(String what, long got, long due) {
         if (got != due) {
-            wrong++;
-            System.out.println(what + " answered " + got + ", due is " + due);
+            wrong(what, got, due);
         }
     }
 
     static void sameMean(String what, double got, double due) {
         if (got != due) {
-            wrong++;
+            wrong(what, got, due);
+        }
+    }
+
+    static void wrong(String what, Object got, Object due) {
+        wrong++;
+        if (wrong <= MOST_TOLD) {
             System.out.println(what + " answered " + got + ", due is " + due);
         }
     }
 
-    /** The call throws exactly this exception, by a throw of the class's own, and changes nothing. */
+    /** The call throws exactly this exception, and no class below it as the machine's own are, and changes nothing. */
     static void fails(String what, HotBeds house, Class<? extends RuntimeException> due, Call call) {
         long before = house.digest();
         Class<?> got = null;
@@ -33,8 +39,7 @@ final class Check {
             got = e.getClass();
         }
         if (got != due) {
-            wrong++;
-            System.out.println(what + " threw " + got + ", due is " + due);
+            wrong(what, got, due);
         }
         same(what + ": the digest behind it", house.digest(), before);
     }

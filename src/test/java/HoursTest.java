@@ -6,7 +6,6 @@ public final class HoursTest {
         passRefuses();
         passCountsFloors();
         bellWakesByLoudness();
-        bellGrowsLouderByHours();
         bellRingsBehindEachWatch();
         lateOnTheFloor();
         lateKeepsTheBed();
@@ -20,7 +19,6 @@ public final class HoursTest {
         floorAfterFourHours();
         servedByNumbers();
         restAndWarmth();
-        coldAndWarmBeds();
         fullHouse();
         Check.end();
     }
@@ -72,23 +70,6 @@ public final class HoursTest {
         x.pass(1);
         Check.same("7 is enough for 6", x.told(1, 6), 0);
         Check.same("late just once", x.told(1, 9), 1);
-    }
-
-    private static void bellGrowsLouderByHours() {
-        int[] late = {5, 4, 4, 3, 3, 2, 2, 1, 1, 0};
-        for (int bell = 0; bell < late.length; bell++) {
-            HotBeds x = new HotBeds();
-            x.setBell(bell);
-            x.bed(0);
-            x.sailor(0, 9, 0, 0);
-            x.pass(8 + late[bell]);
-            Check.same("bell " + bell + ": yet in bed", x.told(0, 6), 1);
-            Check.same("bell " + bell + ": late", x.told(0, 9), late[bell]);
-            x.pass(1);
-            Check.same("bell " + bell + ": up", x.told(0, 6), 0);
-            Check.same("bell " + bell + ": no bed", x.told(0, 7), -1);
-            Check.same("bell " + bell + ": late no more", x.told(0, 9), late[bell]);
-        }
     }
 
     private static void bellRingsBehindEachWatch() {
@@ -353,21 +334,6 @@ public final class HoursTest {
         for (int hour = 0; hour < floor.length; hour++) {
             y.pass(1);
             Check.same("rest on the floor behind hour " + hour, y.told(0, 8), floor[hour]);
-        }
-    }
-
-    private static void coldAndWarmBeds() {
-        for (int hour = 9; hour < 16; hour++) {
-            HotBeds x = new HotBeds();
-            x.bed(0);
-            x.sailor(0, 0, 0, 0);
-            x.pass(hour);
-            int warmth = 16 - hour;
-            Check.same("warmth", x.about(0, 1), warmth);
-            x.sailor(1, 0, 0, 0);
-            x.pass(1);
-            Check.same("rest at warmth " + warmth, x.told(1, 8), warmth >= 4 ? 2 : 1);
-            Check.same("warmer", x.about(0, 1), Math.min(8, warmth + 2));
         }
     }
 

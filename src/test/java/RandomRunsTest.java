@@ -1,27 +1,68 @@
-import java.util.ArrayList;
-import java.util.List;
-
 /**
- * Long runs of calls from a fixed row of numbers. What the class foresees is compared with what comes of it
- * in a twin, a second house that is given the same calls; and the answers have to fit one another.
+ * Runs of calls from a fixed row of numbers, 512 for each house, which is as long as the document promises:
+ * each answer and each exception is compared with the model's, and behind each call the digest.
  */
 public final class RandomRunsTest {
-    private static final int RUNS = 400;
-    private static final int CALLS = 120;
+    private static final int RUNS = 600;
+    private static final int CALLS = 512;
+    private static final int FIRST_CALLS = 14;
+    private static final String[] NAMES = {"bed", "sailor", "keep", "setBell", "setPawn", "give", "pawn", "redeem",
+        "call", "shift", "told", "about", "count", "would", "until", "quiet", "advise", "mean"};
 
-    private long seed;
     private final HotBeds house = new HotBeds();
-    private final List<int[]> calls = new ArrayList<>();
+    private final Model model = new Model();
+    private final int mostHours;
+    private long seed;
 
-    private RandomRunsTest(long seed) {
-        this.seed = seed;
+    private RandomRunsTest(int run) {
+        seed = run * 7919L + 1;
+        mostHours = run % 3 == 0 ? 72 : run % 3 == 1 ? 8 : 2;
     }
 
     public static void main(String[] args) {
         for (int run = 0; run < RUNS; run++) {
-            new RandomRunsTest(run * 7919L + 1).run();
+            new RandomRunsTest(run).run(run);
         }
+        longestTime();
         Check.end();
+    }
+
+    private void run(int run) {
+        for (int calls = 0; calls < CALLS; calls += 2) {
+            String name = calls < 2 * FIRST_CALLS ? NAMES[random(2)]
+                : random(3) == 0 ? "pass" : NAMES[random(NAMES.length)];
+            int[] arguments = arguments(name);
+            compare("run " + run + ", call " + calls, name, arguments);
+            compare("run " + run + ", call " + calls + ", behind " + name, "digest");
+        }
+    }
+
+    /** 512 calls let the most hours go by that a house ever sees. */
+    private static void longestTime() {
+        RandomRunsTest longest = new RandomRunsTest(0);
+        for (int i = 0; i < 6; i++) {
+            longest.compare("the longest time", "bed", i);
+        }
+        for (int i = 0; i < 10; i++) {
+            longest.compare("the longest time", "sailor", i % 3, i, i, i);
+        }
+        for (int i = 0; i < CALLS - 18; i++) {
+            longest.compare("the longest time", "pass", 72);
+        }
+        longest.compare("the longest time", "count", 0);
+        longest.compare("the longest time", "digest");
+    }
+
+    private void compare(String where, String name, int... arguments) {
+        Object due = model.make(name, arguments);
+        Object got = make(name, arguments);
+        if (!got.equals(due)) {
+            StringBuilder call = new StringBuilder(where).append(": ").append(name);
+            for (int argument : arguments) {
+                call.append(' ').append(argument);
+            }
+            Check.wrong(call.toString(), got, due);
+        }
     }
 
     private int random(int below) {
@@ -29,179 +70,77 @@ public final class RandomRunsTest {
         return (int) ((seed >>> 33) % below);
     }
 
-    /** From one too few to one too many, at times, so that calls fail too. */
+    /** At times an edge, one too few or too many, or a number that is far out. */
     private int random(int least, int most) {
-        int edge = random(20) == 0 ? 1 : 0;
-        return least - edge + random(most - least + 1 + 2 * edge);
-    }
-
-    private void run() {
-        for (int i = 0; i < CALLS; i++) {
-            int[] call = randomCall(i);
-            long before = house.digest();
-            int answer = make(house, call);
-            if (answer == FAILED) {
-                Check.same("a call that failed changed nothing", house.digest(), before);
-            } else {
-                calls.add(call);
-            }
-            answersFit();
-            if (i % 8 == 7) {
-                compareWithTwins();
-            }
+        switch (random(40)) {
+            case 0: return least - 1;
+            case 1: return most + 1;
+            case 2: return least;
+            case 3: return most;
+            case 4: return random(8) == 0 ? Integer.MIN_VALUE : least;
+            case 5: return random(8) == 0 ? Integer.MAX_VALUE : most;
+            default: return least + random(most - least + 1);
         }
     }
 
-    private static final int FAILED = Integer.MIN_VALUE;
+    private int randomSailor() {
+        return random(0, Math.max(0, (Integer) model.make("count", 2) - 1));
+    }
 
-    private int[] randomCall(int i) {
-        int kind = i < 8 ? random(2) : random(16);
-        int sailor = random(0, Math.max(0, house.count(2) - 1));
-        int bed = random(-1, Math.max(0, house.count(1) - 1));
-        switch (kind) {
-            case 0: return new int[] {0, random(0, 9)};
-            case 1: return new int[] {1, random(0, 2), random(0, 9), random(0, random(2) == 0 ? 5 : 20), random(0, 12)};
-            case 2: return new int[] {2, sailor, bed};
-            case 3: return new int[] {3, random(0, 9)};
-            case 4: return new int[] {4, random(1, 20)};
-            case 5: return new int[] {5, sailor, random(1, 12)};
-            case 6: return new int[] {6, sailor};
-            case 7: return new int[] {7, sailor};
-            case 8: return new int[] {8, sailor};
-            case 9: return new int[] {9, sailor, random(0, 2)};
-            default: return new int[] {10, random(3) == 0 ? random(1, 72) : random(1, 5)};
+    private int randomBed(int least) {
+        return random(least, Math.max(0, (Integer) model.make("count", 1) - 1));
+    }
+
+    private int[] arguments(String name) {
+        switch (name) {
+            case "bed": return new int[] {random(0, 9)};
+            case "sailor": return new int[] {random(0, 2), random(0, 9), random(0, random(2) == 0 ? 5 : 20), random(0, 12)};
+            case "keep": return new int[] {randomSailor(), randomBed(-1)};
+            case "setBell": return new int[] {random(0, 9)};
+            case "setPawn": return new int[] {random(1, 20)};
+            case "give": return new int[] {randomSailor(), random(1, random(4) == 0 ? 99 : 9)};
+            case "shift": return new int[] {randomSailor(), random(0, 2)};
+            case "pass": return new int[] {random(1, mostHours)};
+            case "told": return new int[] {randomSailor(), random(0, 10)};
+            case "about": return new int[] {randomBed(0), random(0, 4)};
+            case "count": return new int[] {random(0, 9)};
+            case "would": return new int[] {randomSailor(), random(1, 72)};
+            case "quiet":
+            case "mean": return new int[0];
+            default: return new int[] {randomSailor()};
         }
     }
 
-    private static int make(HotBeds x, int[] c) {
+    private Object make(String name, int[] a) {
         try {
-            switch (c[0]) {
-                case 0: return x.bed(c[1]);
-                case 1: return x.sailor(c[1], c[2], c[3], c[4]);
-                case 2: return x.keep(c[1], c[2]);
-                case 3: return x.setBell(c[1]);
-                case 4: return x.setPawn(c[1]);
-                case 5: return x.give(c[1], c[2]);
-                case 6: return x.pawn(c[1]);
-                case 7: return x.redeem(c[1]);
-                case 8: return x.call(c[1]);
-                case 9: return x.shift(c[1], c[2]);
-                default: return x.pass(c[1]);
-            }
+            return answer(name, a);
         } catch (IndexOutOfBoundsException | IllegalArgumentException | IllegalStateException e) {
-            boolean own = e.getStackTrace()[0].getClassName().startsWith("HotBeds");
-            Check.same("thrown by the class itself", own ? 1 : 0, 1);
-            return FAILED;
+            return e.getClass();
         }
     }
 
-    private HotBeds twin() {
-        HotBeds x = new HotBeds();
-        for (int[] call : calls) {
-            make(x, call);
+    private Object answer(String name, int[] a) {
+        switch (name) {
+            case "bed": return house.bed(a[0]);
+            case "sailor": return house.sailor(a[0], a[1], a[2], a[3]);
+            case "keep": return house.keep(a[0], a[1]);
+            case "setBell": return house.setBell(a[0]);
+            case "setPawn": return house.setPawn(a[0]);
+            case "give": return house.give(a[0], a[1]);
+            case "pawn": return house.pawn(a[0]);
+            case "redeem": return house.redeem(a[0]);
+            case "call": return house.call(a[0]);
+            case "shift": return house.shift(a[0], a[1]);
+            case "pass": return house.pass(a[0]);
+            case "told": return house.told(a[0], a[1]);
+            case "about": return house.about(a[0], a[1]);
+            case "count": return house.count(a[0]);
+            case "would": return house.would(a[0], a[1]);
+            case "until": return house.until(a[0]);
+            case "quiet": return house.quiet();
+            case "advise": return house.advise(a[0]);
+            case "mean": return house.mean();
+            default: return house.digest();
         }
-        return x;
-    }
-
-    private void answersFit() {
-        int inBeds = 0;
-        int onFloor = 0;
-        int late = 0;
-        int floors = 0;
-        long rest = 0;
-        for (int s = 0; s < house.count(2); s++) {
-            int bed = house.told(s, 7);
-            inBeds += house.told(s, 6) == 1 ? 1 : 0;
-            onFloor += house.told(s, 6) == 2 ? 1 : 0;
-            rest += house.told(s, 8);
-            late += house.told(s, 9);
-            floors += house.told(s, 10);
-            Check.same("a bed if in a bed", bed >= 0 ? 1 : 0, house.told(s, 6) == 1 ? 1 : 0);
-            if (bed >= 0) {
-                Check.same("who is in it", house.about(bed, 4), s);
-            }
-            Check.same("0 to 99 coins", Math.max(0, Math.min(99, house.told(s, 3))), house.told(s, 3));
-        }
-        int taken = 0;
-        for (int b = 0; b < house.count(1); b++) {
-            taken += house.about(b, 4) >= 0 ? 1 : 0;
-            Check.same("the coins for it", house.about(b, 3), house.about(b, 0) * house.about(b, 2));
-            Check.same("warmth 0 to 8", Math.max(0, Math.min(8, house.about(b, 1))), house.about(b, 1));
-        }
-        Check.same("beds with somebody", taken, inBeds);
-        Check.same("in beds", house.count(4), inBeds);
-        Check.same("on the floor", house.count(5), onFloor);
-        Check.same("late", house.count(6), late);
-        Check.same("floors", house.count(7), floors);
-        Check.sameMean("mean", house.mean(), house.count(2) == 0 ? 0 : (double) rest / house.count(2));
-    }
-
-    private void compareWithTwins() {
-        long before = house.digest();
-        compareHours(random(72) + 1);
-        compareQuiet();
-        for (int s = 0; s < house.count(2); s++) {
-            if (house.told(s, 6) == 0) {
-                compareAdvise(s);
-            }
-        }
-        Check.same("questions change nothing", house.digest(), before);
-    }
-
-    private void compareHours(int hours) {
-        HotBeds whole = twin();
-        HotBeds single = twin();
-        int sailors = house.count(2);
-        int[] until = new int[sailors];
-        for (int s = 0; s < sailors; s++) {
-            until[s] = house.told(s, 6) == 1 ? 0 : -1;
-        }
-        int floors = 0;
-        for (int h = 1; h <= 72; h++) {
-            if (h == hours + 1) {
-                Check.same("pass(" + hours + ")", whole.pass(hours), floors);
-                Check.same("in one go, or by hours", whole.digest(), single.digest());
-                for (int s = 0; s < sailors; s++) {
-                    Check.same("would", house.would(s, hours), whole.told(s, 8) - house.told(s, 8));
-                }
-            }
-            floors += single.pass(1);
-            for (int s = 0; s < sailors; s++) {
-                if (until[s] == -1 && h <= 48 && single.told(s, 6) == 1) {
-                    until[s] = h;
-                }
-            }
-        }
-        for (int s = 0; s < sailors; s++) {
-            Check.same("until", house.until(s), until[s]);
-        }
-    }
-
-    private void compareQuiet() {
-        int due = -1;
-        for (int bell = 9; bell >= 0; bell--) {
-            HotBeds x = twin();
-            x.setBell(bell);
-            x.pass(48);
-            if (x.count(6) == house.count(6)) {
-                due = bell;
-            }
-        }
-        Check.same("quiet", house.quiet(), due);
-    }
-
-    private void compareAdvise(int sailor) {
-        int due = -1;
-        int most = -1;
-        for (int watch = 0; watch < 3; watch++) {
-            HotBeds x = twin();
-            x.shift(sailor, watch);
-            x.pass(48);
-            if (x.told(sailor, 8) > most) {
-                most = x.told(sailor, 8);
-                due = watch;
-            }
-        }
-        Check.same("advise", house.advise(sailor), due);
     }
 }

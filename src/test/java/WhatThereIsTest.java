@@ -1,3 +1,5 @@
+import java.math.BigInteger;
+
 /** Promises 13 to 15 and 20, 21: told, about, count, mean, digest. */
 public final class WhatThereIsTest {
     private static final Class<IndexOutOfBoundsException> OUT = IndexOutOfBoundsException.class;
@@ -7,10 +9,11 @@ public final class WhatThereIsTest {
         toldRefuses();
         aboutRefuses();
         countRefuses();
-        watchesOfHours();
         mean();
         digestOfAnEmptyHouse();
         digestOfAFullHouse();
+        digestWrapsAround();
+        digestOfBedsAloneAndSailorsAlone();
         Check.end();
     }
 
@@ -78,15 +81,6 @@ public final class WhatThereIsTest {
         }
     }
 
-    private static void watchesOfHours() {
-        HotBeds x = new HotBeds();
-        for (int hour = 0; hour < 100; hour++) {
-            Check.same("hour", x.count(0), hour);
-            Check.same("watch of hour " + hour, x.count(3), hour / 8 % 3);
-            x.pass(1);
-        }
-    }
-
     private static void mean() {
         HotBeds x = new HotBeds();
         Check.sameMean("mean without any", x.mean(), 0.0);
@@ -105,17 +99,12 @@ public final class WhatThereIsTest {
     }
 
     private static void digestOfAnEmptyHouse() {
-        long d = 1783;
-        int[] counts = {0, 0, 0, 0, 0, 0, 0, 0, 5, 6};
-        for (int x : counts) {
-            d = d * 31 + x;
-        }
-        Check.same("digest of an empty house", new HotBeds().digest(), d);
+        Check.same("digest of an empty house", new HotBeds().digest(), digest(0, 0, 0, 0, 0, 0, 0, 0, 5, 6));
     }
 
     private static void digestOfAFullHouse() {
         HotBeds x = livelyHouse();
-        int[] due = {
+        long d = digest(
             10, 2, 5, 1, 2, 1, 6, 1, 4, 8,
             2, 8, 1, 2, 0,
             3, 8, 1, 3, 2,
@@ -123,13 +112,52 @@ public final class WhatThereIsTest {
             1, 0, 5, 15, 1, -1, 0, -1, 0, 0, 0,
             0, 8, 6, 23, 1, 1, 1, 1, 18, 2, 0,
             2, 7, 1, 3, 1, 0, 0, -1, 0, 0, 0,
-            0, 9, 0, 0, 1, -1, 2, -1, 3, 2, 1,
-        };
-        long d = 1783;
-        for (int number : due) {
-            d = d * 31 + number;
-        }
+            0, 9, 0, 0, 1, -1, 2, -1, 3, 2, 1);
         Check.same("digest", x.digest(), d);
         Check.same("digest changes nothing", x.digest(), d);
+    }
+
+    /** "Wraps around as a 64-bit integer": reckoned without bounds, and cut to the last 64 bits. */
+    private static void digestWrapsAround() {
+        HotBeds x = livelyHouse();
+        BigInteger d = BigInteger.valueOf(1783);
+        for (int what = 0; what <= 9; what++) {
+            d = behind(d, x.count(what));
+        }
+        Check.same("10 numbers need no wrapping", d.bitLength() < 64 ? 1 : 0, 1);
+        for (int bed = 0; bed < 2; bed++) {
+            for (int what = 0; what <= 4; what++) {
+                d = behind(d, x.about(bed, what));
+            }
+        }
+        for (int sailor = 0; sailor < 5; sailor++) {
+            for (int what = 0; what <= 10; what++) {
+                d = behind(d, x.told(sailor, what));
+            }
+        }
+        Check.same("75 numbers do", d.bitLength() > 64 ? 1 : 0, 1);
+        Check.same("digest", x.digest(), d.longValue());
+    }
+
+    private static BigInteger behind(BigInteger d, int number) {
+        return d.multiply(BigInteger.valueOf(31)).add(BigInteger.valueOf(number));
+    }
+
+    private static void digestOfBedsAloneAndSailorsAlone() {
+        HotBeds beds = new HotBeds();
+        beds.bed(7);
+        Check.same("a bed alone", beds.digest(), digest(0, 1, 0, 0, 0, 0, 0, 0, 5, 6, 7, 0, 0, 0, -1));
+        HotBeds sailors = new HotBeds();
+        sailors.sailor(2, 9, 20, 99);
+        Check.same("a sailor alone", sailors.digest(),
+            digest(0, 0, 1, 0, 0, 0, 0, 0, 5, 6, 2, 9, 20, 99, 1, -1, 0, -1, 0, 0, 0));
+    }
+
+    private static long digest(int... numbers) {
+        long d = 1783;
+        for (int number : numbers) {
+            d = d * 31 + number;
+        }
+        return d;
     }
 }

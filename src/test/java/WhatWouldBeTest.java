@@ -11,12 +11,19 @@ public final class WhatWouldBeTest {
         wouldKnowsPawnAndBoots();
         wouldKnowsLateHours();
         wouldKnowsTheKeptBed();
+        wouldLeastAndMostHours();
         wouldRefuses();
         until();
         untilTheLastHour();
+        untilIsZeroJustInABed();
         untilRefuses();
+        quietIsAsLoudAsTheHeaviest();
+        quietSeesTheSecondDay();
+        quietLeavesOutWhatIsOver();
         quiet();
         advise();
+        adviseSeesFortyEightHours();
+        adviseTakesTheSmallestOfSeveral();
         adviseRefuses();
         Check.end();
     }
@@ -210,5 +217,129 @@ public final class WhatWouldBeTest {
         Check.fails("on the floor", x, STATE, () -> x.advise(1));
         x.call(1);
         Check.same("up again", x.advise(1) >= 0 ? 1 : 0, 1);
+    }
+
+    /** "hours is 1 to 72": both are as if they had gone by, in each hour of a day. */
+    private static void wouldLeastAndMostHours() {
+        for (int hour = 1; hour <= 24; hour++) {
+            for (int hours : new int[] {1, 2, 71, 72}) {
+                HotBeds x = house();
+                x.pass(hour);
+                int[] would = {x.would(0, hours), x.would(1, hours), x.would(2, hours)};
+                int[] before = {x.told(0, 8), x.told(1, 8), x.told(2, 8)};
+                x.pass(hours);
+                for (int sailor = 0; sailor < 3; sailor++) {
+                    Check.same("at the hour " + hour + ", would(" + sailor + ", " + hours + ")", would[sailor],
+                        x.told(sailor, 8) - before[sailor]);
+                }
+            }
+        }
+    }
+
+    /** "0 if it is so now": not on the floor, not called, and yet if late. */
+    private static void untilIsZeroJustInABed() {
+        HotBeds x = new HotBeds();
+        x.setBell(0);
+        x.bed(0);
+        x.sailor(0, 9, 0, 0);
+        x.sailor(0, 0, 0, 0);
+        x.pass(9);
+        Check.same("late in a bed", x.until(0), 0);
+        x.call(0);
+        Check.same("called behind the watch", x.until(0), 16);
+        x.pass(22);
+        Check.same("on the floor", x.told(1, 6), 2);
+        Check.same("on the floor, and never in a bed", x.until(1), -1);
+        x.call(0);
+        Check.same("called in the watch", x.until(0), 1);
+    }
+
+    /** "The least, 0 to 9". */
+    private static void quietIsAsLoudAsTheHeaviest() {
+        for (int heavy = 0; heavy <= 9; heavy++) {
+            HotBeds x = new HotBeds();
+            x.setBell(9 - heavy);
+            x.sailor(1, heavy, 0, 0);
+            Check.same("the bell for " + heavy, x.quiet(), heavy);
+            x.setBell(x.quiet());
+            x.pass(48);
+            Check.same("nobody is late", x.count(6), 0);
+        }
+    }
+
+    /** "In the next 48 hours": who is called behind the watch hears the bell no sooner than a day later. */
+    private static void quietSeesTheSecondDay() {
+        HotBeds x = new HotBeds();
+        x.setBell(0);
+        x.bed(0);
+        x.sailor(0, 3, 0, 0);
+        x.pass(8);
+        x.call(0);
+        Check.same("late in the hour 32", x.quiet(), 3);
+        HotBeds y = new HotBeds();
+        y.bed(0);
+        y.sailor(0, 3, 0, 0);
+        y.pass(9);
+        y.setBell(0);
+        Check.same("up by the bell", y.told(0, 6), 0);
+        Check.same("late in the hour 32 too", y.quiet(), 3);
+    }
+
+    /** "By an hour more": the hours late till now don't count. */
+    private static void quietLeavesOutWhatIsOver() {
+        HotBeds x = new HotBeds();
+        x.setBell(0);
+        x.bed(0);
+        x.sailor(0, 9, 0, 0);
+        x.pass(12);
+        Check.same("late", x.told(0, 9), 4);
+        Check.same("1 and 8 are enough now, but not the next day", x.quiet(), 9);
+        x.call(0);
+        Check.same("late no more", x.told(0, 6), 0);
+        x.shift(0, 1);
+        Check.same("in the next watch", x.quiet(), 9);
+    }
+
+    /** "Behind 48 hours": 28 in watch 0 and in watch 1 then, but 26 and 28 behind 47, and 28 and 29 behind 49. */
+    private static void adviseSeesFortyEightHours() {
+        HotBeds x = new HotBeds();
+        x.bed(0);
+        x.sailor(1, 0, 3, 0);
+        x.pass(8);
+        Check.same("14 in the hours 24 to 31, and 14 in 48 to 55", x.advise(0), 0);
+        HotBeds y = new HotBeds();
+        y.bed(0);
+        y.sailor(1, 6, 0, 5);
+        y.pass(3);
+        Check.same("behind 48 hours, not yet 49", y.advise(0), 1);
+        HotBeds z = new HotBeds();
+        z.bed(9);
+        z.sailor(1, 0, 3, 0);
+        z.pass(2);
+        Check.same("behind 48 hours, no more 47", z.advise(0), 0);
+    }
+
+    /** "Of several the smallest". */
+    private static void adviseTakesTheSmallestOfSeveral() {
+        for (int watch = 0; watch < 3; watch++) {
+            HotBeds x = new HotBeds();
+            x.sailor(watch, 0, 0, 0);
+            Check.same("4 on the floor in all of them", x.advise(0), 0);
+            x.bed(0);
+            Check.same("28 in all of them", x.advise(0), 0);
+            HotBeds y = new HotBeds();
+            y.bed(0);
+            y.bed(0);
+            y.sailor(0, 0, 0, 0);
+            y.sailor(watch, 0, 0, 0);
+            y.keep(1, 1);
+            Check.same("28 in all of them, in a bed of one's own", y.advise(1), 0);
+            HotBeds z = new HotBeds();
+            z.bed(0);
+            z.sailor(0, 0, 0, 0);
+            z.sailor(watch, 0, 0, 0);
+            z.sailor(1, 0, 0, 0);
+            Check.same("4 on the floor in 0, 32 in 1 and 28 in 2", z.advise(1), 1);
+        }
     }
 }
